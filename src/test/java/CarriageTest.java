@@ -9,6 +9,7 @@ public final class CarriageTest {
         pinLostOnTheWay();
         ticksAtOnce();
         wearAndGroove();
+        lastRecord();
         meterGoesRound();
         carriageAndCountRefused();
         count();
@@ -185,6 +186,26 @@ public final class CarriageTest {
         box.key(0);
         box.ticks(box.when(0));
         Due.is("12 wear 99 is not above 99", box.carriage(3), 10);
+    }
+
+    private static void lastRecord() {
+        RecordBox box = new RecordBox();
+        for (int i = 0; i < 16; i++) {
+            box.record(1 + i, 40 + i);
+        }
+        box.change(0, 15);
+        box.change(1, 0);
+        Due.pay(box, 4);
+        for (int song = 0; song < 4; song++) {
+            box.key(song);
+        }
+        Due.is("16 all sides", box.done(), 1 + 4 * 8 + 16 + 1 + 40 + 55 + 9 * 3 + 2 + 9 * 3);
+        box.ticks(box.done());
+        Due.is("13 begun", box.count(5), 4);
+        Due.is("4 wear", box.told(15, 2), 1);
+        Due.is("4 wear", box.told(15, 3), 1);
+        Due.is("12 rests at 0", box.carriage(0), 0);
+        Due.is("12 on its way down", box.carriage(1), 0);
     }
 
     private static void meterGoesRound() {

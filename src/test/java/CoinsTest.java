@@ -4,6 +4,7 @@ public final class CoinsTest {
         prices();
         firstPrices();
         owesLess();
+        leastPrices();
         coinEdges();
         set();
         key();
@@ -57,6 +58,17 @@ public final class CoinsTest {
         Due.is("8 owes 2: one more", box.coin(10), 5);
         Due.is("8 owes 2: no more", box.coin(9), 5);
         Due.is("8 two more", box.coin(20), 7);
+    }
+
+    private static void leastPrices() {
+        RecordBox box = new RecordBox();
+        box.prices(1, 1, 1);
+        Due.is("8 one for 1", box.coin(5), 5);
+        box.prices(1, 50, 20);
+        Due.is("8 one for 1", box.coin(49), 54);
+        Due.is("8 owes 20: nothing", box.coin(1), 54);
+        box.prices(1, 1, 20);
+        Due.is("8 twenty for 1", box.coin(99), 54 + 20 * 99);
     }
 
     private static void coinEdges() {

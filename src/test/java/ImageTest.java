@@ -33,6 +33,8 @@ public final class ImageTest {
     }
 
     private static void disturb(RecordBox box) {
+        box.set(0, 0);
+        box.key(13);
         box.set(0, 1);
         box.set(1, 50);
         box.prices(1, 2, 3);
