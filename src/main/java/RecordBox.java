@@ -585,17 +585,13 @@ public final class RecordBox {
                     play();
                     break;
                 case PLAYS:
-                    begin(PUTS_BACK, ARM_TICKS);
+                    doing = PUTS_BACK;
+                    ticksLeft = ARM_TICKS;
                     break;
                 default:
                     goOn();
                     break;
             }
-        }
-
-        private void begin(int what, int howLong) {
-            doing = what;
-            ticksLeft = howLong;
         }
 
         private void look() {
@@ -609,17 +605,19 @@ public final class RecordBox {
                 misses++;
                 goOn();
             } else {
-                begin(GRIPS, ARM_TICKS);
+                doing = GRIPS;
+                ticksLeft = ARM_TICKS;
             }
         }
 
         private void goOn() {
+            boolean atLastPlace = place == (up ? TOP : 0);
             if (pinsIn == 0) {
-                begin(RESTS, 0);
-            } else if (place == (up ? TOP : 0)) {
-                begin(TURNS, TURN_TICKS);
+                doing = RESTS;
+                ticksLeft = 0;
             } else {
-                begin(MOVES, MOVE_TICKS);
+                doing = atLastPlace ? TURNS : MOVES;
+                ticksLeft = atLastPlace ? TURN_TICKS : MOVE_TICKS;
             }
         }
 
@@ -635,7 +633,8 @@ public final class RecordBox {
             meters[song] = (meters[song] + 1) % METER_SIZE;
             wear[side] = Math.min(wear[side] + 1, MOST_WEAR);
             played++;
-            begin(PLAYS, wear[side] > groove ? 2 * times[side] : times[side]);
+            doing = PLAYS;
+            ticksLeft = wear[side] > groove ? 2 * times[side] : times[side];
         }
     }
 
