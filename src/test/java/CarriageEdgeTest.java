@@ -13,6 +13,7 @@ public final class CarriageEdgeTest {
         misses();
         gripsToPutsBack();
         leastAndGreatestTime();
+        theLastRecordPlays();
         grooveEdge();
         grooveIsAskedAsItBegins();
         wearAtMost();
@@ -117,6 +118,11 @@ public final class CarriageEdgeTest {
             + "ticks 1" + at(0, 0, 5, 4) + "ticks 4 = 125" + at(0, 0, 0, 0) + "key 1; ticks 5 = 130" + at(0, 0, 4, 120) + "ticks 119" + at(0, 0, 4, 1)
             + "ticks 1" + at(0, 0, 5, 4) + "ticks 4 = 254" + at(0, 0, 0, 0) + "told 0 3 = 2; told 0 2 = 0");
         Edge.holds("2 twice a TIME of 1", "record 1 60; change 0 0; set 1 1; coin 25; key 0; ticks 10" + at(0, 1, 0, 0) + "key 0; ticks 5" + at(0, 1, 4, 2));
+    }
+
+    private static void theLastRecordPlays() {
+        Edge.holds("1 RECORDS 0 .. 15: the last PLAYS", "record 1 1 x 15; record 33 44; change 9 15; coin 25; key 18; key 19; ticks 32" + at(9, 1, 4, 33) + "told 15 2 = 1; ticks 43" + at(9, 0, 4, 44)
+            + "told 15 3 = 1; told 14 2 = 0; told 14 3 = 0; told 0 2 = 0; ticks 48; count 5 = 2" + at(9, 0, 0, 0));
     }
 
     private static void grooveEdge() {

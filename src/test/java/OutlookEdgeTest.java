@@ -171,7 +171,10 @@ public final class OutlookEdgeTest {
         String seen = "next 0; next 63; when 3; when 19; done; better 0; better 1; better 2; ";
         Edge.sameBehind("3 all stays as it is", asked + seen + seen, asked);
         Edge.sameBehind("3 all stays as it is, a pin is STUCK IN", asked + "stick 5 1; " + seen, asked + "stick 5 1");
-        Edge.sameBehind("3 what was seen is not kept", asked + seen + "ticks 40; change 9 -1; stick 19 2; key 12; set 1 2", asked + "ticks 40; change 9 -1; stick 19 2; key 12; set 1 2");
+        for (String change : new String[] {"ticks 40", "change 9 -1", "change 3 -1", "stick 19 2", "stick 19 1", "key 12", "set 1 2"}) {
+            Edge.sameBehind("3 what was seen is not kept: " + change, asked + seen + change, asked + change);
+        }
+        Edge.sameBehind("9 what was seen is not kept: the groove", asked + "ticks 2000; key 0; key 3; " + seen + "set 1 2", asked + "ticks 2000; key 0; key 3; set 1 2");
         Edge.sameBehind("3 what was seen is not kept, an image", "image; " + asked + seen + "restore", "image");
         Edge.sameBehind("3 what was seen is not kept, an evening", asked + seen + "tape 'b1t50g2'; evening", asked + "tape 'b1t50g2'; evening");
     }
