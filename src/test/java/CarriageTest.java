@@ -7,10 +7,8 @@ public final class CarriageTest {
         upAndDown();
         missAndRest();
         pinLostOnTheWay();
-        ticksAtOnce();
         wearAndGroove();
         lastRecord();
-        meterGoesRound();
         carriageAndCountRefused();
         count();
         Due.end();
@@ -134,24 +132,6 @@ public final class CarriageTest {
         Due.is("13 no miss", box.count(6), 0);
     }
 
-    private static void ticksAtOnce() {
-        RecordBox slow = Due.filled(7, 11);
-        RecordBox fast = Due.filled(7, 11);
-        for (int song : new int[] {3, 8, 0, 19, 11}) {
-            Due.pay(slow, 1);
-            Due.pay(fast, 1);
-            slow.key(song);
-            fast.key(song);
-        }
-        slow.stick(6, 1);
-        fast.stick(6, 1);
-        for (int i = 0; i < 1500; i++) {
-            slow.ticks(1);
-        }
-        Due.is("11 at once", fast.ticks(1500), 1500);
-        Due.same("11 at once as one by one", Due.state(fast), Due.state(slow));
-    }
-
     private static void wearAndGroove() {
         RecordBox box = new RecordBox();
         box.record(10, 20);
@@ -206,24 +186,6 @@ public final class CarriageTest {
         Due.is("4 wear", box.told(15, 3), 1);
         Due.is("12 rests at 0", box.carriage(0), 0);
         Due.is("12 on its way down", box.carriage(1), 0);
-    }
-
-    private static void meterGoesRound() {
-        RecordBox box = new RecordBox();
-        box.record(1, 1);
-        box.change(9, 0);
-        box.stick(18, 1);
-        int seen = 0;
-        while (seen < 99) {
-            box.ticks(1);
-            seen = box.song(18, 2);
-        }
-        Due.is("5 meter 99", box.song(18, 2), 99);
-        box.ticks(box.when(18));
-        Due.is("5 behind 99 comes 0", box.song(18, 2), 0);
-        Due.is("13 begun", box.count(5), 100);
-        box.ticks(box.when(18));
-        Due.is("5 then 1", box.song(18, 2), 1);
     }
 
     private static void carriageAndCountRefused() {

@@ -60,7 +60,7 @@ final class Due {
         for (int i = 0; i < 4; i++) {
             text.append("carriage ").append(i).append(' ').append(box.carriage(i)).append("; ");
         }
-        for (int record = 0; record < 16; record++) {
+        for (int record = 0; record < box.count(0); record++) {
             for (int what = 0; what < 5; what++) {
                 text.append("told ").append(record).append(' ').append(what).append(' ').append(box.told(record, what)).append("; ");
             }
@@ -71,7 +71,7 @@ final class Due {
             }
             text.append("when ").append(box.when(song)).append("; ");
         }
-        for (int i = 0; i < 64; i++) {
+        for (int i = 0; i < 20; i++) {
             text.append("next ").append(box.next(i)).append("; ");
         }
         text.append("done ").append(box.done()).append("; ");

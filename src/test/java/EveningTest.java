@@ -10,7 +10,6 @@ public final class EveningTest {
         faults();
         aFaultDoesNothing();
         refusedActs();
-        ticksAtTheEnd();
         theTapeIsEmptyThen();
         Due.end();
     }
@@ -155,19 +154,6 @@ public final class EveningTest {
         Due.is("13 lost", box.count(3), 2);
         Due.is("21 the first of a later one", played(box, "t5 b1 +9"), 1);
         Due.is("13 now", box.count(7), 10);
-    }
-
-    private static void ticksAtTheEnd() {
-        RecordBox box = new RecordBox();
-        for (int i = 0; i < 499; i++) {
-            box.ticks(2000);
-        }
-        box.ticks(1001);
-        Due.is("21 full", played(box, "t998 +5 t2 +5"), 2);
-        Due.is("13 now", box.count(7), 999999);
-        Due.is("13 coins", box.count(4), 5);
-        Due.is("21 the last tick", played(box, "t1+7"), 2);
-        Due.is("13 now", box.count(7), 1000000);
     }
 
     private static void theTapeIsEmptyThen() {

@@ -3,7 +3,6 @@ public final class ImageTest {
     public static void main(String[] args) {
         none();
         allIsAsItWas();
-        restoredTwice();
         pricesAndSum();
         sheetsAndTapeStay();
         Due.end();
@@ -65,24 +64,6 @@ public final class ImageTest {
         box.ticks(500);
         other.ticks(500);
         Due.same("23 and goes on as it would", Due.state(box), Due.state(other));
-    }
-
-    private static void restoredTwice() {
-        RecordBox box = busy();
-        box.image();
-        String before = Due.state(box);
-        for (int i = 0; i < 3; i++) {
-            disturb(box);
-            Due.is("23 again", box.restore(), 1);
-            Due.same("23 again", Due.state(box), before);
-        }
-        disturb(box);
-        String later = Due.state(box);
-        box.image();
-        box.ticks(5);
-        box.coin(50);
-        box.restore();
-        Due.same("22 the later image", Due.state(box), later);
     }
 
     private static void pricesAndSum() {

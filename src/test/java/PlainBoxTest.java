@@ -2,7 +2,9 @@ import java.util.Random;
 
 /** All promises: runs of calls, drawn by a fixed seed, on a RecordBox and on a PlainBox, held against each other. */
 public final class PlainBoxTest {
-    private static final int RUNS = 1500, CALLS = 400;
+    private static final int RUNS = 4000;
+    /** An object answers 512 calls; one step makes at most 34. */
+    private static final int LAST_STEP_FROM = 512 - 34;
     private static final int[] STRANGE = {-1, 0, 1, 99, 100, 1000, Integer.MIN_VALUE, Integer.MAX_VALUE};
     private static final String SIGNS = "abcdefghijt+0123456789  12121212ttt+++k";
 
@@ -10,6 +12,7 @@ public final class PlainBoxTest {
     private final RecordBox box = new RecordBox();
     private final PlainBox plain = new PlainBox();
     private final int run;
+    private int calls = 0;
 
     private PlainBoxTest(int run) {
         this.run = run;
@@ -34,6 +37,7 @@ public final class PlainBoxTest {
     }
 
     private void due(String text, long got, long want) {
+        calls++;
         Due.is("run " + run + ", " + text, got, want);
     }
 
@@ -42,7 +46,7 @@ public final class PlainBoxTest {
             furnish();
         }
         boolean sticky = run % 4 == 0;
-        for (int i = 0; i < CALLS; i++) {
+        while (calls <= LAST_STEP_FROM) {
             step(random.nextInt(100), sticky);
         }
     }

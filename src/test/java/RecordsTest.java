@@ -161,9 +161,9 @@ public final class RecordsTest {
     }
 
     private static void stick() {
-        RecordBox box = new RecordBox();
         int[][] steps = {{1, 0, 1}, {2, 1, 0}, {1, 2, 1}, {1, 1, 1}, {0, 1, 1}, {0, 0, 1}, {2, 0, 0}, {0, 2, 0}, {2, 0, 0}, {2, 2, 0}};
         for (int song = 0; song < 20; song++) {
+            RecordBox box = new RecordBox();
             for (int[] step : steps) {
                 Due.is("6 was", box.stick(song, step[0]), step[1]);
                 Due.is("6 how", box.song(song, 1), step[0]);
@@ -171,6 +171,8 @@ public final class RecordsTest {
                 Due.is("6 pins", box.count(1), step[2]);
             }
         }
+        RecordBox box = new RecordBox();
+        box.stick(0, 1);
         String before = Due.state(box);
         for (int wrong : new int[] {-1, 20, Integer.MIN_VALUE, Integer.MAX_VALUE}) {
             Due.is("6 song", box.stick(wrong, 0), Due.BAD);
